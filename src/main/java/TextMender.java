@@ -1094,17 +1094,28 @@ public final class TextMender {
         Reading(Codes codes, Costs costs) {
             this.codes = codes;
             this.costs = costs;
-            begin();
-        }
-
-        private void begin() {
             reached = 0;
             latest = BLANK;
             sum = 0;
             letters = 0;
         }
 
-        private void takeAll(Reading other) {
+        int reached() {
+            return reached;
+        }
+
+        int letters() {
+            return letters;
+        }
+
+        void begin() {
+            reached = 0;
+            latest = BLANK;
+            sum = 0;
+            letters = 0;
+        }
+
+        void takeAll(Reading other) {
             reached = other.reached;
             latest = other.latest;
             sum = other.sum;
@@ -1112,7 +1123,7 @@ public final class TextMender {
         }
 
         /** One LETTER more, if one is told by bytes that all stand ahead of end. */
-        private boolean step(int code, Numbers bytes, int end) {
+        boolean step(int code, Numbers bytes, int end) {
             int found = codes.decode(code, bytes, reached, end);
             if (found == NONE) {
                 return false;
@@ -1125,7 +1136,7 @@ public final class TextMender {
             return true;
         }
 
-        private void goOn(int code, Numbers bytes, int end) {
+        void goOn(int code, Numbers bytes, int end) {
             int most = end - reached;
             for (int k = 0; k < most; k++) {
                 if (!step(code, bytes, end)) {
@@ -1134,7 +1145,7 @@ public final class TextMender {
             }
         }
 
-        private int sumWith(int next) {
+        int sumWith(int next) {
             return sum + costs.of(latest, next);
         }
     }
@@ -1200,10 +1211,10 @@ public final class TextMender {
                     return;
                 }
                 reading.goOn(harms.writtenIn(h), bytes, bytes.length());
-                if (reading.letters > MOST_LETTERS) {
+                if (reading.letters() > MOST_LETTERS) {
                     return;
                 }
-                if (reading.reached == bytes.length()) {
+                if (reading.reached() == bytes.length()) {
                     offer(from, i + 1, h, reading.sumWith(BLANK));
                 }
             }
@@ -1405,16 +1416,16 @@ public final class TextMender {
 
         private void tryWhole(int first, int last) {
             whole.takeAll(middle);
-            for (int k = 0; k < ROOM && whole.reached <= lastMark; k++) {
+            for (int k = 0; k < ROOM && whole.reached() <= lastMark; k++) {
                 if (!whole.step(writtenIn, bytes, bytes.length())) {
                     return;
                 }
             }
-            int tail = whole.reached;
+            int tail = whole.reached();
             if (tail <= lastMark || tail > ROOM || tailLetters[tail] == NONE) {
                 return;
             }
-            int letters = whole.letters + tailLetters[tail];
+            int letters = whole.letters() + tailLetters[tail];
             if (letters <= MOST_LETTERS) {
                 total++;
                 keep(first, last, whole.sumWith(tailFirst[tail]) + tailSum[tail], letters);

@@ -31,6 +31,9 @@ public final class ModelTests {
         for (long seed = from; seed <= to && wrong < 20; seed++) {
             new ModelTests(seed).run();
         }
+        for (long seed = 1; seed <= 12 && wrong < 20; seed++) {
+            new ModelTests(seed).allChoices();
+        }
         System.out.println(calls + " calls compared, " + wrong + " wrong");
         if (wrong != 0) {
             System.exit(1);
@@ -57,6 +60,26 @@ public final class ModelTests {
             same("where()", real.where(), naive.where());
             if (random.nextInt(4) == 0) {
                 look();
+            }
+        }
+    }
+
+    /** Costs of all kinds, so that CHOICES come in an order that has little to do with that of their bytes. */
+    private void allChoices() {
+        for (int k = 0; k < 280; k++) {
+            int x = 120 + random.nextInt(136);
+            int y = random.nextInt(3) == 0 ? 32 : 120 + random.nextInt(136);
+            int v = random.nextInt(30);
+            same("cost", of(real.cost(x, y, v)), of(naive.cost(x, y, v)));
+        }
+        feedAll(List.of(97, 65533, 65533));
+        same("text()", real.text(), naive.text());
+        int b = random.nextInt(3) * 2;
+        int a = 1 + random.nextInt(2);
+        same("choices(" + a + ", " + b + ")", real.choices(a, b), naive.choices(a, b));
+        for (int i = 0; i <= 200; i++) {
+            for (int what = 0; what < 4; what++) {
+                same("choice(" + i + ", " + what + ")", real.choice(i, what), naive.choice(i, what));
             }
         }
     }

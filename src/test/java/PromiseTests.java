@@ -191,6 +191,9 @@ public final class PromiseTests {
             dueText("5 the text stays", x, "abc");
         }
         due("5 no change", x.count(3), 1);
+        due("5 a fault of before", x.size(4), NONE);
+        due("5 no code", x.read(6), NONE);
+        due("5 where is told anew", x.where(), NONE);
         x.span(5, 10, 2, 1040, 1);
         put(x, 11, 10, 11);
         due("5 told", x.read(5), 3);
@@ -245,6 +248,9 @@ public final class PromiseTests {
         dueNumbered("ab&#233", NONE, 2);
         dueNumbered("ab&#233,", NONE, 2);
         dueNumbered("&#x41;", NONE, 0);
+        dueNumbered("&#23:;", NONE, 0);
+        dueNumbered("&#23/;", NONE, 0);
+        dueNumbered("&#200;&#1090;", 2, NONE);
         dueNumbered("&#65535;", 1, NONE);
         dueNumbered("&#65536;", NONE, 0);
         dueNumbered("&#55295;&#55296;", NONE, 8);
@@ -519,7 +525,10 @@ public final class PromiseTests {
         due("14 more than 300", v.rough(2, 0), NONE);
         due("14 where", v.where(), NONE);
         due("14 more than 900 bytes", with(same(113, 65535)).rough(3, 3), NONE);
-        due("14 896 bytes", with(same(112, 65535)).rough(3, 3), 0);
+        int[] just = same(117, 97);
+        java.util.Arrays.fill(just, 0, 112, 65535);
+        due("14 900 bytes", with(java.util.Arrays.copyOf(just, 116)).rough(3, 3), 0);
+        due("14 901 bytes", with(just).rough(3, 3), NONE);
     }
 
     private static void undo() {
@@ -586,6 +595,13 @@ public final class PromiseTests {
         x.span(5, 0, 192, 1000, 1);
         x.span(5, 194, 45, 2000, 1);
         due("16 byte 239", x.safe(2, 5), 0);
+        x.blank(4);
+        x.blank(5);
+        x.span(4, 0, 1, 97, 0);
+        due("16 byte 0", x.safe(4, 5), 0);
+        x.blank(4);
+        x.span(4, 255, 1, 97, 0);
+        due("16 byte 255", x.safe(4, 5), 0);
         due("16 no code", x.safe(6, 0), NONE);
         due("16 no code", x.safe(0, -1), NONE);
         due("16 no change", x.count(3), 0);
@@ -734,6 +750,8 @@ public final class PromiseTests {
         due("22 worth", x.worth(), 21);
         due("22 count", x.count(5), 300);
         due("22 no change", x.count(3), 1);
+        due("22 the first is no other", x.cost(97 + 32768, 98, 3), false);
+        due("22 the second is no other", x.cost(97, 98 + 32768, 3), false);
         put(x, 65535, 0, 65534, 1, 65238, 297);
         x.text();
         due("22 worth", x.worth(), (9 + 30) + 7 + 64 + 7 + 64 + 7 + 9);
@@ -949,6 +967,27 @@ public final class PromiseTests {
         TextMender v = with("\ufffda\ufffd");
         due("26 parted", v.choices(1, 2), 128 * 128);
         TextMender u = with("\ufffd\u00e9");
+        // a MARK within a letter that a tells by more bytes
+        TextMender t = with("&#233\ufffda&#23\ufffd;");
+        t.span(4, 32, 27, 32, 1);
+        t.span(4, 60, 60, 60, 1);
+        t.span(4, 59, 1, 1000, 0);
+        due("26 code 4 has no ;", t.choices(3, 4), NONE);
+        due("26 where", t.where(), 12);
+        put(t, signs("&#233\ufffda&#23\ufffdb"));
+        t.text();
+        t.blank(4);
+        t.span(4, 32, 27, 32, 1);
+        t.span(4, 60, 60, 60, 1);
+        due("26 both are ;", t.choices(3, 4), 0);
+        put(t, signs("&#233\ufffda&#234\ufffdb"));
+        t.text();
+        due("26 both are ;", t.choices(3, 4), 1);
+        due("27 ;", t.choice(0, 0), ';');
+        due("27 ;", t.choice(0, 1), ';');
+        due("27 letters", t.choice(0, 3), 4);
+        due("28 chosen", t.chosen(0), true);
+        dueText("28", t, "\u00e9a\u00eab");
         due("26 written in b", u.choices(1, 2), 128);
         due("27 letters", u.choice(0, 3), 3);
     }
@@ -1014,6 +1053,14 @@ public final class PromiseTests {
         numbers[0] = MARK;
         due("26 more than 300 letters", with(numbers).choices(1, 3), 0);
         due("26 295 letters", with(java.util.Arrays.copyOf(numbers, 50)).choices(1, 3), 129);
+        numbers = java.util.Arrays.copyOf(numbers, 56);
+        java.util.Arrays.fill(numbers, 50, 56, 97);
+        due("26 300 letters", with(java.util.Arrays.copyOf(numbers, 55)).choices(1, 3), 129);
+        due("26 301 letters", with(numbers).choices(1, 3), 0);
+        // 100 letters of eight bytes but one
+        int[] longest = same(100, 65535);
+        longest[99] = MARK;
+        due("26 the longest", with(longest).choices(3, 3), 0);
         // refused: the choices of before are still told, and can be chosen
         TextMender y = with("a\ufffd");
         y.choices(1, 0);
@@ -1043,9 +1090,10 @@ public final class PromiseTests {
         dueStale("chosen()", x);
         x.back();
         dueStale("back()", x);
-        for (int k = 0; k < 9; k++) {
+        for (int k = 0; k < 10; k++) {
             x = fresh();
             switch (k) {
+                case 9: x.back(); break;
                 case 0: x.text(); break;
                 case 1: x.harm(2, 2); break;
                 case 2: x.rough(2, 2); break;
