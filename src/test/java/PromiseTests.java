@@ -988,6 +988,13 @@ public final class PromiseTests {
         due("27 letters", t.choice(0, 3), 4);
         due("28 chosen", t.chosen(0), true);
         dueText("28", t, "\u00e9a\u00eab");
+        put(t, signs("&#233\ufffda&#234\ufffdb"));
+        t.text();
+        t.blank(4);
+        t.span(4, 0, 33, 0, 1);
+        t.span(4, 34, 25, 34, 1);
+        t.span(4, 60, 196, 60, 1);
+        due("26 of ! and ; only ; is good", t.choices(3, 4), 1);
         due("26 written in b", u.choices(1, 2), 128);
         due("27 letters", u.choice(0, 3), 3);
     }
