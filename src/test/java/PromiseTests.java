@@ -1,12 +1,5 @@
-import java.util.NoSuchElementException;
-
 /** For each promise of the document: ordinary inputs, the edges that it names, and wrong inputs. */
-public final class PromiseTests {
-    private static final int NONE = TextMender.NONE;
-    private static final int MARK = 65533;
-    private static int wrong = 0;
-    private static int asked = 0;
-
+public final class PromiseTests extends Due {
     public static void main(String[] args) {
         newObject();
         feedAndEnd();
@@ -37,70 +30,7 @@ public final class PromiseTests {
         choicesOrder();
         choicesRefused();
         chosen();
-        System.out.println(asked + " answers asked, " + wrong + " wrong");
-        if (wrong != 0) {
-            System.exit(1);
-        }
-    }
-
-    // ---- what the tests share
-
-    private static void due(String what, long got, long want) {
-        asked++;
-        if (got != want) {
-            wrong++;
-            System.out.println(what + ": answered " + got + ", due is " + want);
-        }
-    }
-
-    private static void due(String what, boolean got, boolean want) {
-        due(what, got ? 1 : 0, want ? 1 : 0);
-    }
-
-    private static void put(TextMender x, int... numbers) {
-        for (int i = 0; i < numbers.length; i += 5) {
-            int[] five = new int[5];
-            for (int k = 0; k < 5 && i + k < numbers.length; k++) {
-                five[k] = numbers[i + k];
-            }
-            x.feed(five[0], five[1], five[2], five[3], five[4]);
-        }
-        x.end(numbers.length);
-    }
-
-    private static int[] signs(String s) {
-        return s.chars().toArray();
-    }
-
-    private static int[] same(int n, int number) {
-        int[] out = new int[n];
-        java.util.Arrays.fill(out, number);
-        return out;
-    }
-
-    private static TextMender with(int... letters) {
-        TextMender x = new TextMender();
-        put(x, letters);
-        due("text() of " + letters.length, x.text(), letters.length);
-        return x;
-    }
-
-    private static TextMender with(String s) {
-        return with(signs(s));
-    }
-
-    private static void dueText(String what, TextMender x, String want) {
-        due(what + ", length", x.count(0), want.length());
-        for (int i = 0; i < want.length() && i < x.count(0); i++) {
-            due(what + ", letter " + i, x.at(i), want.charAt(i));
-        }
-    }
-
-    private static void dueRead(int code, int want, int fault, int... bytes) {
-        TextMender x = new TextMender();
-        put(x, bytes);
-        due("read(" + code + ") of " + java.util.Arrays.toString(bytes), x.read(code), want);
-        due("where() of that", x.where(), fault);
+        tellAndEnd();
     }
 
     // ---- promises
@@ -330,16 +260,6 @@ public final class PromiseTests {
         }
         due("8 count(8)", x.count(8), NONE);
         due("8 count(-1)", x.count(-1), NONE);
-    }
-
-    private static void dueNoLetter(TextMender x, int i) {
-        boolean thrown = false;
-        try {
-            x.at(i);
-        } catch (NoSuchElementException e) {
-            thrown = true;
-        }
-        due("9 at(" + i + ") throws", thrown, true);
     }
 
     private static void at() {
