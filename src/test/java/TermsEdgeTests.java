@@ -115,7 +115,7 @@ public final class TermsEdgeTests extends Due {
     }
 
     private static void textOf300ByHarms() {
-        says("Terms 1", "THE TEXT has at most 300 LETTERS");
+        says("Terms 1", "what comes has at most 300 LETTERS");
         due("harm() to 300", with(same(150, 233)).harm(2, 1), 300);
         due("harm() to 301", with(joined(same(150, 233), 97)).harm(2, 1), NONE);
         due("undo() to 300", with(same(150, 233)).undo(1, 2), 300);
@@ -157,7 +157,7 @@ public final class TermsEdgeTests extends Due {
     }
 
     private static void bytesOf900InRows() {
-        says("Terms 1", "are at most 900");
+        says("Terms 1", "and at most 900 BYTES lie between");
         TextMender x = with(joined(same(112, 65535), 97, 97, 97, 97));
         x.list(3, 3);
         due("rows() by 900", x.rows(3), 3);
