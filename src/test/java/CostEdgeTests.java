@@ -31,6 +31,7 @@ public final class CostEdgeTests extends Due {
         choicesMarks();
         choicesEachAByte();
         choicesOfOneLetter();
+        choicesOfTwoLetters();
         choicesReadInA();
         choicesTo300();
         choicesComeAgain();
@@ -531,6 +532,22 @@ public final class CostEdgeTests extends Due {
         dueChoice(x, 1, 195, 191, 9 + 1 + 9 + 9, 3);
         dueChoice(x, 2, 195, 128, 9 + 9 + 9 + 9, 3);
         dueChoice(x, 127, 195, 183, 9 + 39 + 39 + 9, 3);
+    }
+
+    /** Each byte ends a LETTER of MANY that one ahead of it, which b has, began: what was tried before leaves nothing. */
+    private static void choicesOfTwoLetters() {
+        says("26", "for each MARK a byte");
+        TextMender x = with(1003, MARK, 1004, MARK);
+        x.span(4, 0, 128, 0, 1);
+        x.span(4, 192, 64, 1000, 1);
+        x.cost(200, 257, 0);
+        x.cost(255, 318, 1);
+        due("64 times 64", x.choices(2, 4), 64 * 64);
+        dueChoice(x, 0, 136, 129, 9 + 0 + 9, 2);
+        dueChoice(x, 1, 191, 190, 9 + 1 + 9, 2);
+        dueChoice(x, 2, 128, 128, 9 + 4 + 9, 2);
+        due("chosen", x.chosen(1), true);
+        dueText("chosen", x, 255, 318);
     }
 
     private static void choicesReadInA() {
