@@ -670,9 +670,9 @@ public final class CostEdgeTests extends Due {
     private static void choicesNumberOfMarks() {
         says("26", "Refused: another number of MARKS");
         dueRefused(new TextMender(), 1, 0, NONE);
-        dueRefused(with("a\u00e9"), 1, 0, NONE);
+        dueRefused(with("a\u00e9"), 1, 2, NONE);
         dueRefused(with(MARK, MARK, MARK), 1, 0, NONE);
-        dueRefused(with(MARK, MARK, MARK, 233), 1, 0, NONE);
+        dueRefused(with(MARK, MARK, MARK, 233), 1, 2, NONE);
         dueRefused(with(65532, 65534), 1, 2, NONE);
         dueRefused(with(same(100, MARK)), 1, 0, NONE);
     }
@@ -682,7 +682,7 @@ public final class CostEdgeTests extends Due {
         for (int code : NO_CODES) {
             dueRefused(with(MARK), code, 0, NONE);
             dueRefused(with(MARK), 1, code, NONE);
-            dueRefused(with(MARK, 233), code, 0, NONE);
+            dueRefused(with(MARK, 233), code, 2, NONE);
         }
     }
 
@@ -715,10 +715,11 @@ public final class CostEdgeTests extends Due {
         dueChoice(x, 0, 200, NONE, 18, 1);
         x.choices(9, 0);
         dueChoice(x, 0, 200, NONE, 18, 1);
-        x.cost(32, 1000, 100);
         x.text();
-        x.blank(4);
         dueChoice(x, 0, 200, NONE, 18, 1);
+        x.cost(32, 1000, 100);
+        x.blank(4);
+        due("the bytes stay", x.choice(0, 0), 200);
         x.back();
         due("the latest", x.choices(4, 0), 0);
         due("the latest", x.choice(0, 0), NONE);
@@ -811,9 +812,6 @@ public final class CostEdgeTests extends Due {
         TextMender y = with(MARK);
         y.choices(1, 1);
         due("of none", y.chosen(0), false);
-        TextMender z = with(MARK, MARK);
-        z.choices(1, 0);
-        due("not told", z.chosen(200), false);
     }
 
     private static TextMender withChoices() {

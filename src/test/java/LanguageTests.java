@@ -9,8 +9,13 @@ import java.util.ArrayList;
 import java.util.List;
 import java.util.Set;
 import java.util.TreeSet;
+import java.util.regex.Matcher;
+import java.util.regex.Pattern;
 
-/** What of LANGUAGE.md can be seen by looking at the class and at its source; the source's path is the argument. */
+/**
+ * What of LANGUAGE.md can be seen by looking at the class and at its source, and no more than its rules say; the
+ * source's path is the argument.
+ */
 public final class LanguageTests {
     private static final String[] FACE = {
         "int feed(int,int,int,int,int)", "boolean end(int)", "int text()", "int read(int)",
@@ -19,15 +24,25 @@ public final class LanguageTests {
         "int safe(int,int)", "int back()", "int list(int,int)", "int unlist()", "int rows(int)", "int row(int,int)",
         "boolean cost(int,int,int)", "int worth()", "int mend(int,int)", "int parts(int)", "int choices(int,int)",
         "int choice(int,int)", "boolean chosen(int)"};
-    private static final String[] FORBIDDEN = {"->", "::", "catch", "try ", "finally", "synchronized", "assert ",
-        "static {", "package ", "System.out", "Exact(", "Random", "Thread", "@Override", "instanceof", "double", "float"};
+    /** Rule 11 says "some" of these three, so a few more are no fault. */
+    private static final int SOME_TWELVE = 14;
+    private static final int SOME_TWENTY = 24;
+    private static final int SOME_SIXTY = 70;
+    private static final String THROWN = "(IllegalState|IllegalArgument|IndexOutOfBounds|Arithmetic|UnsupportedOperation"
+        + "|NoSuchElement|Runtime)Exception";
     private static int wrong = 0;
     private static int asked = 0;
 
     public static void main(String[] args) throws Exception {
         face();
-        fieldsAndMethods();
-        source(Path.of(args.length > 0 ? args[0] : "src/main/java/TextMender.java"));
+        classesInside();
+        methodsInside();
+        String source = Files.readString(Path.of(args.length > 0 ? args[0] : "src/main/java/TextMender.java"));
+        String bare = bare(source);
+        library(bare);
+        exceptions(source, bare);
+        forms(bare);
+        methodLengths(bare);
         System.out.println(asked + " rules asked, " + wrong + " broken");
         if (wrong != 0) {
             System.exit(1);
@@ -42,6 +57,8 @@ public final class LanguageTests {
         }
     }
 
+    // ---- rules 1, 2, 5, 11, by the class
+
     private static String told(Method m) {
         StringBuilder s = new StringBuilder(m.getReturnType().getSimpleName() + " " + m.getName() + "(");
         for (int i = 0; i < m.getParameterCount(); i++) {
@@ -52,75 +69,133 @@ public final class LanguageTests {
 
     private static void face() {
         Class<?> c = TextMender.class;
-        due("public and final", Modifier.isPublic(c.getModifiers()) && Modifier.isFinal(c.getModifiers()));
+        due("1 public and final", Modifier.isPublic(c.getModifiers()) && Modifier.isFinal(c.getModifiers()));
         Set<String> got = new TreeSet<>();
         for (Method m : c.getDeclaredMethods()) {
             if (Modifier.isPublic(m.getModifiers())) {
                 got.add(told(m));
+                due("1 of an object: " + m, !Modifier.isStatic(m.getModifiers()));
             }
         }
-        due("the public methods are " + got, got.equals(new TreeSet<>(List.of(FACE))));
+        due("1 the public methods are " + got, got.equals(new TreeSet<>(List.of(FACE))));
+        due("1 one constructor", c.getDeclaredConstructors().length == 1);
         for (Constructor<?> k : c.getDeclaredConstructors()) {
-            due("constructor", Modifier.isPublic(k.getModifiers()) && k.getParameterCount() == 0);
+            due("1 constructor", Modifier.isPublic(k.getModifiers()) && k.getParameterCount() == 0);
         }
         List<Member> members = new ArrayList<>(List.of(c.getDeclaredMethods()));
         members.addAll(List.of(c.getDeclaredFields()));
         for (Member m : members) {
             boolean shown = Modifier.isPublic(m.getModifiers()) || Modifier.isPrivate(m.getModifiers());
-            due("public or private: " + m.getName(), shown);
+            due("1 public or private: " + m.getName(), shown || m.isSynthetic());
         }
         for (Field f : c.getDeclaredFields()) {
-            due("no other public field: " + f, !Modifier.isPublic(f.getModifiers()) || f.getName().equals("NONE"));
+            due("1 no other public field: " + f, !Modifier.isPublic(f.getModifiers()) || f.getName().equals("NONE"));
         }
     }
 
-    private static void fieldsAndMethods() {
-        Set<String> names = new TreeSet<>();
-        for (String told : FACE) {
-            names.add(told.substring(told.indexOf(' ') + 1, told.indexOf('(')));
-        }
+    private static List<Class<?>> all() {
         List<Class<?>> all = new ArrayList<>(List.of(TextMender.class.getDeclaredClasses()));
-        for (Class<?> c : all) {
-            due("static: " + c, Modifier.isStatic(c.getModifiers()) && !Modifier.isPublic(c.getModifiers()));
-        }
         all.add(TextMender.class);
-        due("at most twelve classes", all.size() <= 12);
-        for (Class<?> c : all) {
+        return all;
+    }
+
+    private static void classesInside() {
+        due("11 at most some twelve classes", all().size() <= SOME_TWELVE);
+        for (Class<?> c : all()) {
+            int m = c.getModifiers();
+            boolean hidden = !Modifier.isPublic(m) && !Modifier.isProtected(m) && Modifier.isStatic(m);
+            due("1 private or package-visible, and static: " + c, hidden || c == TextMender.class);
             int fields = 0;
             for (Field f : c.getDeclaredFields()) {
                 boolean isStatic = Modifier.isStatic(f.getModifiers());
                 fields += isStatic ? 0 : 1;
-                due("static and final: " + f, !isStatic || Modifier.isFinal(f.getModifiers()));
+                due("5 static and final: " + f, !isStatic || Modifier.isFinal(f.getModifiers()));
             }
-            due("at most twenty fields: " + c + " has " + fields, fields <= 20);
+            due("11 some twenty fields: " + c + " has " + fields, fields <= SOME_TWENTY);
+        }
+    }
+
+    private static void methodsInside() {
+        Set<String> names = new TreeSet<>();
+        for (String told : FACE) {
+            names.add(told.substring(told.indexOf(' ') + 1, told.indexOf('(')));
+        }
+        for (Class<?> c : all()) {
             for (Method m : c.getDeclaredMethods()) {
-                due("at most seven parameters: " + m, m.getParameterCount() <= 7);
-                boolean own = c == TextMender.class && Modifier.isPublic(m.getModifiers());
-                due("no other method bears a name of the face: " + m, own || !names.contains(m.getName()));
+                due("11 at most seven parameters: " + m, m.getParameterCount() <= 7);
+                boolean isPrivate = Modifier.isPrivate(m.getModifiers());
+                due("1 no private method bears a public name: " + m, !isPrivate || !names.contains(m.getName()));
             }
         }
     }
 
-    private static void source(Path path) throws Exception {
-        List<String> lines = Files.readAllLines(path);
-        int methodStart = -1;
-        for (int i = 0; i < lines.size(); i++) {
-            String line = lines.get(i);
-            String code = line.replaceAll("//.*", "").replaceAll("^\\s*(/\\*\\*|\\*).*", "");
-            for (String word : FORBIDDEN) {
-                due("line " + (i + 1) + " has " + word, !code.contains(word));
-            }
-            due("signs of line " + (i + 1), line.chars().allMatch(c -> c < 128));
-            if (code.startsWith("import")) {
-                due(line, code.matches("import java\\.util\\.(Arrays|NoSuchElementException);"));
-            }
-            due("throw of line " + (i + 1), !code.contains("throw new") || code.contains("NoSuchElementException(\""));
-            if (code.matches("^ {4,8}[a-zA-Z].*\\) (throws \\w+ )?\\{$") && !code.trim().startsWith("for")) {
-                methodStart = i;
-            }
-            if (code.matches("^ {4,8}\\}$") && methodStart >= 0) {
-                due("at most sixty lines, from " + (methodStart + 1), i - methodStart <= 60);
-                methodStart = -1;
+    // ---- the source without its comments and written texts
+
+    private static String bare(String source) {
+        Pattern left = Pattern.compile("//[^\\n]*|/\\*.*?\\*/|\"(\\\\.|[^\"\\\\])*\"|'(\\\\.|[^'\\\\])+'", Pattern.DOTALL);
+        Matcher m = left.matcher(source);
+        StringBuilder out = new StringBuilder();
+        int from = 0;
+        while (m.find()) {
+            out.append(source, from, m.start());
+            String gone = m.group();
+            out.append(gone.startsWith("\"") ? "\"\"" : gone.startsWith("'") ? "' '" : gone.replaceAll("[^\\n]", ""));
+            from = m.end();
+        }
+        return out.append(source.substring(from)).toString();
+    }
+
+    private static void dueNone(String rule, String bare, String pattern) {
+        Matcher m = Pattern.compile(pattern).matcher(bare);
+        boolean found = m.find();
+        due(rule + (found ? ": " + m.group() : ""), !found);
+    }
+
+    // ---- rules 4, 6, 9, 13, by the source
+
+    private static void library(String bare) {
+        Matcher imports = Pattern.compile("(?m)^\\s*import\\s+([^;]+);").matcher(bare);
+        while (imports.find()) {
+            String name = imports.group(1).trim();
+            due("4 import " + name, name.matches("java\\.util\\.(ArrayList|List|Arrays|Iterator|NoSuchElementException)"));
+        }
+        dueNone("no package line", bare, "(?m)^\\s*package\\s");
+        dueNone("4 of System only arraycopy", bare, "\\bSystem\\s*\\.\\s*(?!arraycopy\\b)\\w+");
+        dueNone("4 none whose name ends in Exact", bare, "\\w+Exact\\s*\\(");
+        dueNone("13 no clock, chance, thread", bare, "\\b(Random|Thread|Runtime|LocalDate|Instant|File|Files|Path)\\b");
+    }
+
+    private static void exceptions(String source, String bare) {
+        dueNone("6 only these are thrown", bare, "\\bthrow\\b(?!\\s+new\\s+" + THROWN + "\\s*\\((\"\")?\\))[^;]*;");
+        dueNone("6 no finally, synchronized, assert", bare, "\\b(finally|synchronized|assert)\\b");
+        dueNone("6 no try with resources", bare, "\\btry\\s*\\(");
+        dueNone("6 only these are caught", bare, "\\bcatch\\s*\\(\\s*(?!(final\\s+)?" + THROWN + "\\b)[^)]*\\)");
+        dueNone("6 no exception classes", bare, "\\bextends\\s+\\w*(Exception|Error|Throwable)\\b");
+        dueNone("4 signs of texts are 1 to 127", source, "\"[^\"\\n]*[^\\x01-\\x7f][^\"\\n]*\"");
+    }
+
+    private static void forms(String bare) {
+        dueNone("2 no method reference", bare, "::");
+        dueNone("5 no static initialiser block", bare, "\\bstatic\\s*\\{");
+        for (String line : bare.split("\\n")) {
+            boolean ofSwitch = line.trim().startsWith("case ") || line.trim().startsWith("default");
+            due("2 no lambda: " + line, !line.contains("->") || ofSwitch);
+        }
+    }
+
+    private static void methodLengths(String bare) {
+        String[] lines = bare.split("\\n", -1);
+        Pattern head = Pattern.compile("^\\s+(?!(if|for|while|switch|catch|else|do|return|new|try|\\})\\b)"
+            + "[\\w<>\\[\\], ]+\\([^;=]*\\)\\s*(throws [\\w, ]+)?\\{\\s*$");
+        for (int i = 0; i < lines.length; i++) {
+            if (head.matcher(lines[i]).find()) {
+                int end = i;
+                int open = 1;
+                while (open > 0 && end + 1 < lines.length) {
+                    end++;
+                    open += lines[end].replaceAll("[^{]", "").length() - lines[end].replaceAll("[^}]", "").length();
+                }
+                due("11 some sixty lines, from " + (i + 1), end - i <= SOME_SIXTY);
             }
         }
     }

@@ -57,11 +57,42 @@ public final class ModelTests {
         return b ? 1 : 0;
     }
 
+    private void where() {
+        if (!naive.whereOpen()) {
+            same("where()", real.where(), naive.where());
+        }
+    }
+
+    private void row(int i, int what) {
+        if (!naive.rowOpen(what)) {
+            same("row(" + i + ", " + what + ")", real.row(i, what), naive.row(i, what));
+        }
+    }
+
+    private void choice(int i, int what) {
+        if (!naive.choiceOpen(what)) {
+            same("choice(" + i + ", " + what + ")", real.choice(i, what), naive.choice(i, what));
+        }
+    }
+
+    private void chosen(int i) {
+        if (!naive.chosenOpen(i)) {
+            same("chosen(" + i + ")", of(real.chosen(i)), of(naive.chosen(i)));
+        }
+    }
+
+    /** Whether more than 300 are gone from THE TAPE when they were refused is not said: they are taken off. */
+    private void emptyTape(int had) {
+        if (had > 300) {
+            same("end(0)", of(real.end(0)), of(naive.end(0)));
+        }
+    }
+
     private void run() {
         int mood = random.nextInt(8);
         while (used < 490 && wrong == 0) {
             step(mood);
-            same("where()", real.where(), naive.where());
+            where();
             if (random.nextInt(4) == 0) {
                 look();
             }
@@ -83,7 +114,7 @@ public final class ModelTests {
         same("choices(" + a + ", " + b + ")", real.choices(a, b), naive.choices(a, b));
         for (int i = (int) (seed % 3); i <= 200; i += 3) {
             for (int what = 0; what < 4; what++) {
-                same("choice(" + i + ", " + what + ")", real.choice(i, what), naive.choice(i, what));
+                choice(i, what);
             }
         }
     }
@@ -223,8 +254,14 @@ public final class ModelTests {
         if (!text.isEmpty() && random.nextInt(12) == 0) {
             text.set(random.nextInt(text.size()), odd());
         }
+        takeText(text);
+    }
+
+    private void takeText(List<Integer> text) {
         feedAll(text);
+        int had = naive.count(1);
         same("text()", real.text(), naive.text());
+        emptyTape(had);
     }
 
     private void tellBytes() {
@@ -258,10 +295,16 @@ public final class ModelTests {
         }
         feedAll(bytes);
         int asked = random.nextInt(25) == 0 ? odd() : code;
+        int had = naive.count(1);
         same("read(" + asked + ")", real.read(asked), naive.read(asked));
+        emptyTape(had);
     }
 
     private void span(int code, int from, int n, int letter, int step) {
+        // of one byte the step is not used: whether it is looked at is not said
+        if (n == 1 && (step < -255 || step > 255)) {
+            return;
+        }
         same("span(" + code + ", " + from + ", " + n + ", " + letter + ", " + step + ")",
             real.span(code, from, n, letter, step), naive.span(code, from, n, letter, step));
     }
@@ -300,7 +343,9 @@ public final class ModelTests {
     private void rough() {
         int a = code();
         int b = code();
-        same("rough(" + a + ", " + b + ")", real.rough(a, b), naive.rough(a, b));
+        int got = real.rough(a, b);
+        int due = naive.rough(a, b);
+        same("rough(" + a + ", " + b + ")", naive.roughOpen() && got != NaiveMender.NONE ? due : got, due);
     }
 
     private void undo() {
@@ -333,7 +378,7 @@ public final class ModelTests {
     private void row() {
         int i = upTo(40);
         for (int what = -1; what <= 6; what++) {
-            same("row(" + i + ", " + what + ")", real.row(i, what), naive.row(i, what));
+            row(i, what);
         }
     }
 
@@ -382,8 +427,7 @@ public final class ModelTests {
         if (text.size() > 12 && text.size() <= 100 && random.nextInt(4) != 0) {
             text = text.subList(0, 12);
         }
-        feedAll(text);
-        same("text()", real.text(), naive.text());
+        takeText(text);
         int a = code();
         b = random.nextInt(20) == 0 ? odd() : b;
         same("choices(" + a + ", " + b + ")", real.choices(a, b), naive.choices(a, b));
@@ -396,14 +440,13 @@ public final class ModelTests {
     private void choiceAndChosen() {
         int i = upTo(random.nextBoolean() ? 205 : 6);
         for (int what = -1; what <= 4; what++) {
-            same("choice(" + i + ", " + what + ")", real.choice(i, what), naive.choice(i, what));
+            choice(i, what);
         }
         if (random.nextInt(3) == 0) {
             oddCalls();
         }
         if (random.nextInt(3) != 0) {
-            int k = upTo(6);
-            same("chosen(" + k + ")", of(real.chosen(k)), of(naive.chosen(k)));
+            chosen(upTo(6));
             look();
         }
     }
@@ -456,13 +499,13 @@ public final class ModelTests {
                 same("byteOf(" + x + ", " + y + ")", real.byteOf(x, y), naive.byteOf(x, y));
                 break;
             case 10:
-                same("row(" + x + ", " + y + ")", real.row(x, y), naive.row(x, y));
+                row(x, y);
                 break;
             case 11:
-                same("choice(" + x + ", " + y + ")", real.choice(x, y), naive.choice(x, y));
+                choice(x, y);
                 break;
             case 12:
-                same("chosen(" + x + ")", of(real.chosen(x)), of(naive.chosen(x)));
+                chosen(x);
                 break;
             default:
                 same("undo(" + x + ", " + y + ")", real.undo(x, y), naive.undo(x, y));

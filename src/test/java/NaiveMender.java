@@ -10,7 +10,8 @@ import java.util.TreeMap;
 
 /**
  * The document's words done again in the plainest way, with the Java library and without any thrift: what
- * TextMender answers is compared with this.
+ * TextMender answers is compared with this. Where the document leaves an answer open, it says so (the calls that
+ * end in Open), and that answer is not compared.
  */
 final class NaiveMender {
     static final int NONE = -1;
@@ -43,7 +44,14 @@ final class NaiveMender {
     private List<ChoiceFound> choicesTold = new ArrayList<>();
     private long version = 0;
     private long choicesVersion = -1;
+    private long emptied = 0;
+    private long choicesEmptied = 0;
+    private long tables = 0;
+    private long rowsTables = 0;
+    private long choicesTables = 0;
     private int where = NONE;
+    private boolean whereOpen = false;
+    private boolean roughOpen = false;
 
     NaiveMender() {
         told.put(4, new TreeMap<>());
@@ -56,6 +64,38 @@ final class NaiveMender {
 
     static boolean isCode(int code) {
         return code >= 0 && code <= 5;
+    }
+
+    // ---- what the document leaves open
+
+    /** The latest call had several grounds to be refused, and it is not said which of them is asked first. */
+    boolean whereOpen() {
+        return whereOpen;
+    }
+
+    /** MARKS that were in THE TEXT were READ again: whether they "came" is not said. */
+    boolean roughOpen() {
+        return roughOpen;
+    }
+
+    /** Costs or TOLD CODES were told since rows(): only THE TEXT and THE LIST are said to be as they were. */
+    boolean rowOpen(int what) {
+        return (what == 4 || what == 5) && tables != rowsTables;
+    }
+
+    boolean choiceOpen(int what) {
+        return (what == 2 || what == 3) && tables != choicesTables;
+    }
+
+    /** A CHOICE that is there but not told; or what was emptied since choices() had been empty. */
+    boolean chosenOpen(int i) {
+        boolean notTold = i >= 200 && i < choicesTold.size();
+        return version == choicesVersion && (notTold || emptied != choicesEmptied);
+    }
+
+    private void tellWhere(int place, boolean open) {
+        where = place;
+        whereOpen = open;
     }
 
     // ---- codes
@@ -170,25 +210,25 @@ final class NaiveMender {
 
     /** null if it CAN not be DONE; sets where. */
     private List<Integer> done(int a, int b, List<Integer> from) {
-        where = NONE;
+        tellWhere(NONE, false);
         Outcome w = written(a, from);
         if (!w.good()) {
-            where = w.fault();
+            tellWhere(w.fault(), false);
             return null;
         }
         Outcome r = read(b, w.numbers(), false);
         if (!r.good()) {
-            where = r.fault();
+            tellWhere(r.fault(), w.numbers().size() > 900 || r.numbers().size() >= 300);
             return null;
         }
         return r.numbers().size() > 300 || w.numbers().size() > 900 ? null : r.numbers();
     }
 
     private List<Integer> doneRoughly(int a, int b, List<Integer> from) {
-        where = NONE;
+        tellWhere(NONE, false);
         Outcome w = written(a, from);
         if (!w.good()) {
-            where = w.fault();
+            tellWhere(w.fault(), false);
             return null;
         }
         Outcome r = read(b, w.numbers(), true);
@@ -201,7 +241,7 @@ final class NaiveMender {
             return null;
         }
         List<Integer> again = done(a, b, before);
-        where = NONE;
+        tellWhere(NONE, false);
         return from.equals(again) ? before : null;
     }
 
@@ -242,7 +282,7 @@ final class NaiveMender {
     }
 
     int text() {
-        where = NONE;
+        tellWhere(NONE, false);
         List<Integer> was = tape;
         tape = new ArrayList<>();
         if (was.size() > 300) {
@@ -250,7 +290,7 @@ final class NaiveMender {
         }
         for (int i = 0; i < was.size(); i++) {
             if (!isLetter(was.get(i))) {
-                where = i;
+                tellWhere(i, false);
                 return NONE;
             }
         }
@@ -258,25 +298,29 @@ final class NaiveMender {
     }
 
     int read(int code) {
-        where = NONE;
         List<Integer> was = tape;
         tape = new ArrayList<>();
+        int bytes = 0;
+        while (bytes < was.size() && was.get(bytes) >= 0 && was.get(bytes) <= 255) {
+            bytes++;
+        }
+        boolean noByte = bytes < was.size();
         if (!isCode(code)) {
+            tellWhere(NONE, noByte);
             return NONE;
         }
-        for (int i = 0; i < was.size(); i++) {
-            if (was.get(i) < 0 || was.get(i) > 255) {
-                where = i;
-                return NONE;
-            }
+        Outcome r = read(code, was.subList(0, bytes), false);
+        boolean tooMany = r.numbers().size() >= 300;
+        if (noByte) {
+            tellWhere(bytes, tooMany || !r.good());
+            return NONE;
         }
-        Outcome r = read(code, was, false);
-        where = r.fault();
+        tellWhere(r.fault(), tooMany && !r.good());
         return !r.good() || r.numbers().size() > 300 ? NONE : become(r.numbers());
     }
 
     int span(int code, int from, int n, int letter, int step) {
-        where = NONE;
+        tellWhere(NONE, false);
         if (code != 4 && code != 5 || n < 1 || n > 256 || step < -255 || step > 255) {
             return NONE;
         }
@@ -294,6 +338,7 @@ final class NaiveMender {
         }
         told.put(code, next);
         version++;
+        tables++;
         return next.size();
     }
 
@@ -301,8 +346,10 @@ final class NaiveMender {
         if (code != 4 && code != 5) {
             return false;
         }
+        version += told.get(code).isEmpty() ? 0 : 1;
         told.put(code, new TreeMap<>());
-        version++;
+        emptied++;
+        tables++;
         return true;
     }
 
@@ -320,12 +367,12 @@ final class NaiveMender {
     }
 
     int size(int code) {
-        where = NONE;
+        tellWhere(NONE, false);
         if (!isCode(code)) {
             return NONE;
         }
         Outcome w = written(code, text);
-        where = w.fault();
+        tellWhere(w.fault(), false);
         return w.good() ? w.numbers().size() : NONE;
     }
 
@@ -341,13 +388,14 @@ final class NaiveMender {
     // ---- harms
 
     int harm(int a, int b) {
-        where = NONE;
+        tellWhere(NONE, false);
         List<Integer> next = isCode(a) && isCode(b) ? done(a, b, text) : null;
         return next == null ? NONE : become(next);
     }
 
     int rough(int a, int b) {
-        where = NONE;
+        tellWhere(NONE, false);
+        roughOpen = false;
         List<Integer> next = isCode(a) && isCode(b) ? doneRoughly(a, b, text) : null;
         if (next == null) {
             return NONE;
@@ -359,19 +407,20 @@ final class NaiveMender {
             came += letter == NONE ? 1 : 0;
             p += letter == NONE ? 1 : bytesOf(b, letter).size();
         }
+        roughOpen = came != marks(next);
         become(next);
         return came;
     }
 
     int undo(int a, int b) {
-        where = NONE;
+        tellWhere(NONE, false);
         List<Integer> next = isCode(a) && isCode(b) ? undone(a, b, text) : null;
         return next == null ? NONE : become(next);
     }
 
     /** By trying all texts of one LETTER that a has, and of two of some. */
     int safe(int a, int b) {
-        where = NONE;
+        tellWhere(NONE, false);
         if (!isCode(a) || !isCode(b)) {
             return NONE;
         }
@@ -409,7 +458,7 @@ final class NaiveMender {
     // ---- rows of harms
 
     int list(int a, int b) {
-        where = NONE;
+        tellWhere(NONE, false);
         if (!isCode(a) || !isCode(b) || list.size() == 6 || list.contains(new Harm(a, b))) {
             return NONE;
         }
@@ -421,7 +470,8 @@ final class NaiveMender {
     int unlist() {
         int had = list.size();
         list.clear();
-        version++;
+        version += had > 0 ? 1 : 0;
+        emptied++;
         return had;
     }
 
@@ -448,16 +498,17 @@ final class NaiveMender {
             }
             now = next;
         }
-        where = NONE;
+        tellWhere(NONE, false);
         return out;
     }
 
     int rows(int n) {
-        where = NONE;
+        tellWhere(NONE, false);
         if (n < 1 || n > 3) {
             return NONE;
         }
         rowsTold = findRows(n);
+        rowsTables = tables;
         return rowsTold.size();
     }
 
@@ -493,6 +544,7 @@ final class NaiveMender {
         }
         costs.put(List.of(x, y), v);
         version++;
+        tables++;
         return true;
     }
 
@@ -537,7 +589,7 @@ final class NaiveMender {
     }
 
     int mend(int n, int gain) {
-        where = NONE;
+        tellWhere(NONE, false);
         if (n < 1 || n > 3 || gain < 1 || gain > 100000) {
             return NONE;
         }
@@ -586,7 +638,7 @@ final class NaiveMender {
                 }
             }
         }
-        where = NONE;
+        tellWhere(NONE, false);
         return out;
     }
 
@@ -624,7 +676,7 @@ final class NaiveMender {
     }
 
     int parts(int price) {
-        where = NONE;
+        tellWhere(NONE, false);
         if (text.isEmpty() || text.size() > 60 || price < 0 || price > 1000) {
             return NONE;
         }
@@ -660,17 +712,26 @@ final class NaiveMender {
         }
     }
 
+    /** The place of the first LETTER but the MARK that a CODE has not. */
+    private int missing(int code) {
+        for (int i = 0; i < text.size(); i++) {
+            if (text.get(i) != MARK && bytesOf(code, text.get(i)) == null) {
+                return i;
+            }
+        }
+        return NONE;
+    }
+
     int choices(int a, int b) {
-        where = NONE;
         int marks = marks(text);
+        int missing = isCode(b) ? missing(b) : NONE;
         if (marks < 1 || marks > 2 || !isCode(a) || !isCode(b) || text.size() > 100) {
+            tellWhere(NONE, missing != NONE);
             return NONE;
         }
-        for (int i = 0; i < text.size(); i++) {
-            if (text.get(i) != MARK && bytesOf(b, text.get(i)) == null) {
-                where = i;
-                return NONE;
-            }
+        tellWhere(missing, false);
+        if (missing != NONE) {
+            return NONE;
         }
         List<ChoiceFound> found = new ArrayList<>();
         for (int x = 0; x < 256; x++) {
@@ -686,11 +747,13 @@ final class NaiveMender {
                 }
             }
         }
-        where = NONE;
+        tellWhere(NONE, false);
         found.sort(Comparator.comparingInt(ChoiceFound::cost).thenComparingInt(ChoiceFound::first)
             .thenComparingInt(ChoiceFound::second));
         choicesTold = found;
         choicesVersion = version;
+        choicesEmptied = emptied;
+        choicesTables = tables;
         return found.size();
     }
 

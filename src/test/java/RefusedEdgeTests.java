@@ -163,9 +163,21 @@ public final class RefusedEdgeTests extends Due {
         due(what + " changes nothing but the tape", all(x).equals(all(y)), true);
     }
 
+    /** Whether THE TAPE goes, too, is not asked here. */
+    private static void dueNothingOf301(String what, Call call) {
+        TextMender x = rich();
+        TextMender y = rich();
+        x.end(0);
+        y.end(0);
+        put(x, same(301, 97));
+        due(what, call.on(x), NONE);
+        x.end(0);
+        due(what + " changes nothing but the tape", all(x).equals(all(y)), true);
+    }
+
     private static void refusedTexts() {
         says("Terms 4", "Refused calls answer NONE, or false, and change nothing but what where() tells");
-        dueTapeAlone("text() of 301", TextMender::text, same(301, 97));
+        dueNothingOf301("text() of 301", TextMender::text);
         for (int bad : BAD_LETTERS) {
             dueTapeAlone("text() of " + bad, TextMender::text, 97, bad);
         }
@@ -179,7 +191,7 @@ public final class RefusedEdgeTests extends Due {
         dueTapeAlone("read(1) of 256", x -> x.read(1), 97, 256);
         dueTapeAlone("read(1) of -1", x -> x.read(1), 97, -1);
         dueTapeAlone("read(2) of what is cut", x -> x.read(2), 97, 195);
-        dueTapeAlone("read(1) of 301", x -> x.read(1), same(301, 97));
+        dueNothingOf301("read(1) of 301", x -> x.read(1));
     }
 
     private static void refusedSpans() {
