@@ -17,6 +17,7 @@ public final class CostEdgeTests extends Due {
         partsSpansOfOne();
         partsStayOrUndone();
         partsUndoneTo300();
+        partsByThemselves();
         partsPrice();
         partsFirstFree();
         partsFewest();
@@ -342,6 +343,25 @@ public final class CostEdgeTests extends Due {
         y.cost(233, ' ', 0);
         due("301 letters", y.parts(1000), 1);
         due("it stays as it is", y.count(0), 60);
+    }
+
+    private static void partsByThemselves() {
+        says("25", "that of each span (by itself)");
+        // the blanks on both sides cost what they cost, however dear
+        TextMender x = with("a");
+        x.cost(32, 97, 200);
+        x.cost(97, 32, 200);
+        due("one letter", x.parts(0), 1);
+        dueText("one letter", x, "a");
+        TextMender y = with("ab");
+        y.cost(98, 32, 200);
+        due("9 + 4 + 200, or 18 and 209", y.parts(0), 1);
+        dueText("one span", y, "ab");
+        y.cost(97, 32, 0);
+        y.cost(32, 98, 0);
+        due("9 + 4 + 200, or 9 and 200", y.parts(3), 2);
+        due("9 + 4 + 200, or 9 and 200, and the price", y.parts(4), 1);
+        dueText("the text is the same", y, "ab");
     }
 
     private static void partsPrice() {

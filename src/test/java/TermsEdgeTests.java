@@ -41,6 +41,7 @@ public final class TermsEdgeTests extends Due {
         changes();
         noChanges();
         latestTwenty();
+        latestTwentyOf300();
         tellAndEnd();
     }
 
@@ -601,5 +602,24 @@ public final class TermsEdgeTests extends Due {
         }
         due("no more", x.back(), NONE);
         due("stays", x.count(0), 25);
+    }
+
+    /** All of them of the greatest length: by (4, 5) each letter 97 .. 99 becomes the next one, and 99 becomes 97. */
+    private static void latestTwentyOf300() {
+        says("Terms 4", "the latest 20 can be taken back");
+        TextMender x = with(same(300, 97));
+        x.span(4, 1, 3, 97, 1);
+        x.span(5, 1, 2, 98, 1);
+        x.span(5, 3, 1, 97, 0);
+        for (int k = 1; k <= 45; k++) {
+            due("harm()", x.harm(4, 5), 300);
+        }
+        for (int k = 44; k >= 25; k--) {
+            due("back()", x.back(), k - 25);
+            due("its length", x.count(0), 300);
+            due("its first", x.at(0), 97 + k % 3);
+            due("its last", x.at(299), 97 + k % 3);
+        }
+        due("no more", x.back(), NONE);
     }
 }
