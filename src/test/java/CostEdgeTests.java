@@ -21,6 +21,7 @@ public final class CostEdgeTests extends Due {
         partsPrice();
         partsFirstFree();
         partsFewest();
+        partsFewestAheadOfLongest();
         partsFirstLongest();
         partsLowerNumber();
         partsAsItIsAhead();
@@ -34,6 +35,7 @@ public final class CostEdgeTests extends Due {
         choicesOfOneLetter();
         choicesOfTwoLetters();
         choicesReadInA();
+        choicesFaultInA();
         choicesTo300();
         choicesComeAgain();
         choicesByThemselves();
@@ -340,7 +342,7 @@ public final class CostEdgeTests extends Due {
         TextMender y = cheapByNumbers(joined(ampersands(59), 233));
         y.cost('&', '&', 0);
         y.cost('&', 233, 0);
-        y.cost(233, ' ', 0);
+        y.cost(233, ' ', 5);
         due("301 letters", y.parts(1000), 1);
         due("it stays as it is", y.count(0), 60);
     }
@@ -400,6 +402,31 @@ public final class CostEdgeTests extends Due {
         due("all partings are equal", x.parts(0), 1);
         x.cost(97, 97, 19);
         due("four cost less", x.parts(0), 4);
+    }
+
+    private static void partsFewestAheadOfLongest() {
+        says("25", "of equal ones the fewest spans, then the first one longest");
+        // 1 as it is and 2 3 4 by code 5, or 1 2 by code 4 and 3 and 4 as they are: 10 each, all else costs more
+        TextMender x = with(1, 2, 3, 4);
+        x.span(4, 1, 4, 1001, 1);
+        x.span(5, 1, 4, 1011, 1);
+        x.list(4, 1);
+        x.list(5, 1);
+        for (int letter : new int[] {1, 3, 4}) {
+            x.cost(32, letter, 0);
+            x.cost(letter, 32, 0);
+        }
+        int[][] told = {{1, 2, 200}, {2, 3, 200}, {3, 4, 200}, {32, 1001, 0}, {1001, 1002, 1}, {1002, 1003, 200},
+            {1011, 1012, 200}, {1012, 1013, 0}, {1013, 1014, 0}, {1014, 32, 1}};
+        for (int[] t : told) {
+            x.cost(t[0], t[1], t[2]);
+        }
+        due("two spans", x.parts(0), 2);
+        dueText("two spans", x, 1, 1012, 1013, 1014);
+        x.back();
+        x.cost(1014, 32, 2);
+        due("three cost less", x.parts(0), 3);
+        dueText("three cost less", x, 1001, 1002, 3, 4);
     }
 
     /** Two harms: code 4 reads bytes 1, 2 as 1001, 1002 and code 5 as 1011, 1012; both letters of WIDE are dear. */
@@ -582,6 +609,34 @@ public final class CostEdgeTests extends Due {
         due("its byte", x.choice(0, 0), 200);
     }
 
+    /** Code 4 reads what is below 128 and two bytes more, but not the two of 233. */
+    private static void dueInFour(int want, int... letters) {
+        TextMender x = with(letters);
+        x.span(4, 0, 128, 0, 1);
+        x.span(4, 200, 2, 2000, 1);
+        due("choices(4, 2) of " + java.util.Arrays.toString(letters), x.choices(4, 2), want);
+    }
+
+    private static void choicesFaultInA() {
+        says("26", "what comes of that READ in a (without a FAULT");
+        int[] some = same(20, 97);
+        int[] marked = joined(some, joined(new int[] {MARK}, some));
+        dueInFour(2, marked);
+        for (int place : new int[] {0, 1, 19, 21, 22, 23, 40}) {
+            int[] faulty = marked.clone();
+            faulty[place] = 233;
+            dueInFour(0, faulty);
+        }
+        int[] twice = marked.clone();
+        twice[3] = MARK;
+        dueInFour(4, twice);
+        for (int place : new int[] {0, 2, 4, 10, 19, 21, 22, 40}) {
+            int[] faulty = twice.clone();
+            faulty[place] = 233;
+            dueInFour(0, faulty);
+        }
+    }
+
     private static void choicesTo300() {
         says("26", "at most 300 LETTERS");
         int[] just = joined(same(49, 233), 97, 97, 97, 97, 97, MARK);
@@ -712,6 +767,18 @@ public final class CostEdgeTests extends Due {
         dueRefused(with(joined(same(100, 97), MARK)), 1, 0, NONE);
         dueRefused(with(joined(same(299, 97), MARK)), 1, 0, NONE);
         due("100 of eight bytes but one", with(joined(same(99, 65535), MARK)).choices(3, 3), 0);
+        // of THE TEXT as it is, not as it was
+        TextMender x = with(97, MARK);
+        put(x, joined(same(100, 97), MARK));
+        x.text();
+        x.back();
+        due("taken back to two", x.choices(1, 0), 128);
+        put(x, joined(same(100, 97), MARK));
+        x.text();
+        put(x, 97, MARK);
+        x.text();
+        x.back();
+        due("taken back to 101", x.choices(1, 0), NONE);
     }
 
     private static void choicesMissingLetter() {

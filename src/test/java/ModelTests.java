@@ -33,6 +33,11 @@ public final class ModelTests {
         }
         for (long seed = 1; seed <= 36 && wrong < 20; seed++) {
             new ModelTests(seed).allChoices();
+            new ModelTests(seed).toldChoices();
+            new ModelTests(seed).tiedParts();
+        }
+        for (long seed = 1; seed <= 6 && wrong < 20; seed++) {
+            new ModelTests(seed).longParts();
         }
         System.out.println(calls + " calls compared, " + wrong + " wrong");
         if (wrong != 0) {
@@ -116,6 +121,94 @@ public final class ModelTests {
             for (int what = 0; what < 4; what++) {
                 choice(i, what);
             }
+        }
+    }
+
+    private void toldSpans(int from4, int n4, int letter4, int from5, int n5, int letter5) {
+        span(4, from4, n4, letter4, 1);
+        span(5, from5, n5, letter5, 1);
+    }
+
+    private void tellCost(int x, int y, int v) {
+        same("cost(" + x + ", " + y + ", " + v + ")", of(real.cost(x, y, v)), of(naive.cost(x, y, v)));
+    }
+
+    /** Codes that have much, but not all, so that a MARK may be there for many reasons and a FAULT be anywhere. */
+    private void toldChoices() {
+        toldSpans(0, 128, 0, 0, 38, 0);
+        toldSpans(200, 2, 2000, 39, 20, 39);
+        toldSpans(195, 1, 233, 60, 120, 60);
+        while (used < 450 && wrong == 0) {
+            List<Integer> text = new ArrayList<>();
+            int n = 1 + random.nextInt(random.nextInt(4) == 0 ? 30 : 6);
+            int kinds = 2 + random.nextInt(11);
+            for (int i = 0; i < n; i++) {
+                text.add((int) "ab&#233;\u00e9\u07d0\u07d1\u00c3".charAt(random.nextInt(kinds)));
+            }
+            for (int k = 1 + random.nextInt(n > 9 ? 1 : 2); k > 0; k--) {
+                text.add(random.nextInt(text.size() + 1), 65533);
+            }
+            takeText(text);
+            if (random.nextInt(4) == 0) {
+                same("back()", real.back(), naive.back());
+            }
+            if (naive.count(0) > 10 && naive.count(4) == 2) {
+                continue;
+            }
+            int a = 1 + random.nextInt(5);
+            int b = random.nextInt(3) == 0 ? random.nextInt(6) : 2 + random.nextInt(4);
+            same("choices(" + a + ", " + b + ")", real.choices(a, b), naive.choices(a, b));
+            where();
+            choiceAndChosen();
+        }
+    }
+
+    /** Few kinds of costs, so that many partings are equal. */
+    private void tiedParts() {
+        int[] values = {0, 1, 9, 10, 20, 200};
+        int[] all = {32, 1, 2, 3, 4, 1001, 1002, 1003, 1004, 1011, 1012, 1013, 1014};
+        toldSpans(1, 4, 1001, 1, 4, 1011);
+        same("list(4, 1)", real.list(4, 1), naive.list(4, 1));
+        same("list(5, 1)", real.list(5, 1), naive.list(5, 1));
+        int kinds = 2 + random.nextInt(5);
+        for (int k = 0; k < 100; k++) {
+            tellCost(all[random.nextInt(all.length)], all[random.nextInt(all.length)], values[random.nextInt(kinds)]);
+        }
+        while (used < 490 && wrong == 0) {
+            List<Integer> text = new ArrayList<>();
+            for (int i = 1 + random.nextInt(6); i > 0; i--) {
+                text.add(1 + random.nextInt(4));
+            }
+            takeText(text);
+            tellCost(all[random.nextInt(all.length)], all[random.nextInt(all.length)], values[random.nextInt(kinds)]);
+            int price = random.nextInt(3) * random.nextInt(10);
+            same("parts(" + price + ")", real.parts(price), naive.parts(price));
+            look();
+        }
+    }
+
+    /** Spans that come to about 300 LETTERS, alone and together. */
+    private void longParts() {
+        int[] signs = {32, '&', '#', '2', '3', '8', ';', 233};
+        same("list(0, 3)", real.list(0, 3), naive.list(0, 3));
+        for (int x : signs) {
+            for (int y : signs) {
+                if (random.nextInt(3) != 0) {
+                    tellCost(x, y, random.nextInt(4));
+                }
+            }
+        }
+        for (int k = 0; k < 8 && wrong == 0; k++) {
+            List<Integer> text = new ArrayList<>();
+            for (int i = 47 + random.nextInt(14); i > 0; i--) {
+                text.add(random.nextInt(3) == 0 ? 233 : 38);
+            }
+            takeText(text);
+            tellCost('&', '&', random.nextInt(201));
+            tellCost(233, '&', random.nextInt(201));
+            int price = random.nextInt(2) * random.nextInt(1001);
+            same("parts(" + price + ")", real.parts(price), naive.parts(price));
+            look();
         }
     }
 
@@ -397,7 +490,7 @@ public final class ModelTests {
         if (random.nextInt(4) == 0) {
             y = 32;
         }
-        same("cost(" + x + ", " + y + ", " + v + ")", of(real.cost(x, y, v)), of(naive.cost(x, y, v)));
+        tellCost(x, y, v);
     }
 
     private void mend() {
