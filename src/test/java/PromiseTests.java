@@ -175,6 +175,10 @@ public final class PromiseTests extends Due {
         dueNumbered("ab&#233", NONE, 2);
         dueNumbered("ab&#233,", NONE, 2);
         dueNumbered("&#x41;", NONE, 0);
+        dueNumbered("&x233;", NONE, 0);
+        dueNumbered("&&233;", NONE, 0);
+        dueNumbered("&233;", NONE, 0);
+        dueNumbered("##233;", 6, NONE);
         dueNumbered("&#23:;", NONE, 0);
         dueNumbered("&#23/;", NONE, 0);
         dueNumbered("&#200;&#1090;", 2, NONE);

@@ -524,7 +524,11 @@ public final class TermsEdgeTests extends Due {
         for (int s = 0; s < sort.length; s++) {
             for (int letter : sort[s]) {
                 due("of one sort: " + letter, with(sort[s][0], letter).worth(), 22);
-                due("of another: " + letter, with(sort[(s + 1) % sort.length][0], letter).worth(), 27);
+                for (int other = 1; other < sort.length; other++) {
+                    int beside = sort[(s + other) % sort.length][0];
+                    due("not of the sort of " + beside + ": " + letter, with(beside, letter).worth(), 27);
+                    due("not of the sort of " + beside + ": " + letter, with(letter, beside).worth(), 27);
+                }
             }
         }
         due("the blank", with(32).worth(), 8);
